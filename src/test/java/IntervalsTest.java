@@ -49,6 +49,14 @@ public final class IntervalsTest {
             clock.advance(1000000);
         }
         interval("after very many ticks", clock, 0, -2 - 150004, 5 + 150004);
+        MajorityClock slow = new MajorityClock(1, 1, 0);
+        Rig.sample(slow, 0, 0, 0, 0);
+        slow.advance(1);
+        interval("a millionth of a tick", slow, 0, -1, 1);
+        slow.advance(999999);
+        interval("a whole tick", slow, 0, -1, 1);
+        slow.advance(1);
+        interval("a millionth above a tick", slow, 0, -2, 2);
     }
 
     private static void rootWidensBothEnds() {

@@ -155,6 +155,9 @@ public final class LeasesTest {
         Due.yes("holds() with the least reading and the greatest bound", far.holds(0, 1, -T40, T40));
         Due.no("holds() below the least reading", far.holds(0, 1, -T40 - 1, 0));
         Due.no("holds() with the least long", far.holds(0, 1, Long.MIN_VALUE, 0));
+        Due.is("grant beyond 2^40", far.grant(0, 1, 1000), T40 + 1000);
+        Due.yes("holds() with a reading above 2^40", far.holds(0, 1, T40 + 999, 0));
+        Due.no("holds() at the expiry above 2^40", far.holds(0, 1, T40 + 1000, 0));
         Due.no("holds() at 2^41", far.holds(0, 1, 2 * T40, 0));
         Due.no("holds() above 2^41", far.holds(0, 1, 2 * T40 + 1, 0));
         Due.no("holds() with sums that would wrap", far.holds(0, 1, Long.MAX_VALUE, T40));

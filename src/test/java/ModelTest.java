@@ -40,7 +40,7 @@ public final class ModelTest {
     }
 
     private void run(int seed) {
-        int made = 0;
+        int made = random.nextBoolean() ? tellAll() : 0;
         while (made < CALLS && !Due.anyWrong()) {
             made += step("run " + seed + ", call " + made + ": ");
         }
@@ -134,6 +134,15 @@ public final class ModelTest {
         Due.is(at + "tell(" + s + ", " + stratum + ", " + reference + ", " + root + ")",
                 clock.tell(s, stratum, reference, root) ? 1 : 0, model.tell(s, stratum, reference, root) ? 1 : 0);
         return 1;
+    }
+
+    /** Makes all servers usable from the start, so that many of them take part in the updates. */
+    private int tellAll() {
+        for (int s = 0; s < servers; s++) {
+            int stratum = 1 + random.nextInt(14);
+            Due.is("tell at first", clock.tell(s, stratum, 5, 0) ? 1 : 0, model.tell(s, stratum, 5, 0) ? 1 : 0);
+        }
+        return servers;
     }
 
     private int doUpdate(String at) {
