@@ -2,16 +2,34 @@
 final class Due {
     private static int wrong = 0;
     private static int asked = 0;
+    private static String sentence = "";
 
     private Due() {
+    }
+
+    /** The document's words that the answers from here on are due by; told with each wrong answer. */
+    static void by(String words) {
+        sentence = words;
     }
 
     static void is(String call, long got, long want) {
         asked++;
         if (got != want) {
-            wrong++;
-            System.out.println(call + " answered " + got + ", due is " + want);
+            wrong("" + got, "" + want, call);
         }
+    }
+
+    static void same(String call, String got, String want) {
+        asked++;
+        if (!got.equals(want)) {
+            wrong(got, want, call);
+        }
+    }
+
+    private static void wrong(String got, String want, String call) {
+        wrong++;
+        System.out.println(call + " answered " + got + ", due is " + want
+                + (sentence.isEmpty() ? "" : " by \"" + sentence + "\""));
     }
 
     static void yes(String call, boolean got) {

@@ -74,6 +74,7 @@ public final class FaceTest {
         same("the constructors", constructors, new String[] {"void new(int, int, int)"});
     }
 
+    /** More than 512 calls are made here: what the later ones answer is free, that none throws is not. */
     private static void noCallThrows() throws Exception {
         Object[] ints = {Integer.MIN_VALUE, -1, 0, 5, 6, Integer.MAX_VALUE};
         Object[] longs = {Long.MIN_VALUE, -1L, 0L, 1L << 40, Long.MAX_VALUE};

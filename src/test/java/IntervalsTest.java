@@ -1,13 +1,20 @@
 /** Promises 9 and 10: low, high. */
 public final class IntervalsTest {
+    private static final int[] NO_SERVERS = {-1, 2, 3, 6, Integer.MAX_VALUE, Integer.MIN_VALUE};
+
     public static void main(String[] args) {
-        nothingThere();
+        noSuchServer();
+        noSamples();
         growthIsRoundedUp();
+        growthOfTheLeastDrift();
+        growthOfTheGreatestDrift();
+        noGrowthWithoutDrift();
         rootWidensBothEnds();
         shortestSampleIsTaken();
         amongEqualOnesTheLatest();
         growthCountsForTheShortest();
-        ninthSampleIsForgotten();
+        eighthSampleStaysTheNinthGoes();
+        eightSamplesOfEachServer();
         endsMayBeBelowZero();
         Due.end();
     }
@@ -17,21 +24,35 @@ public final class IntervalsTest {
         Due.is("high(" + s + ") " + when, clock.high(s), high);
     }
 
-    private static void nothingThere() {
+    private static void noSuchServer() {
+        Due.by("NOTHING when there is no such server");
         MajorityClock clock = new MajorityClock(2, 0, 0);
-        int[] servers = {-1, 0, 1, 2, 6, Integer.MAX_VALUE, Integer.MIN_VALUE};
-        for (int s : servers) {
-            interval("of a new object", clock, s, Rig.NOTHING, Rig.NOTHING);
+        Rig.samplesForAll(clock, Rig.row(0, 5), Rig.row(0, 5), 0);
+        for (int s : NO_SERVERS) {
+            interval("of no server", clock, s, Rig.NOTHING, Rig.NOTHING);
         }
+        interval("of the first", clock, 0, 0, 0);
+        interval("of the last", clock, 1, 5, 5);
+    }
+
+    private static void noSamples() {
+        Due.by("or it has no samples.");
+        MajorityClock clock = new MajorityClock(2, 0, 0);
+        interval("of a new object", clock, 0, Rig.NOTHING, Rig.NOTHING);
+        clock.tell(0, 1, 1, 100);
         clock.ask(0);
         interval("when only asked", clock, 0, Rig.NOTHING, Rig.NOTHING);
+        Rig.sealedReply(clock, 0, 0, 0, 1);
+        interval("when the reply was refused", clock, 0, Rig.NOTHING, Rig.NOTHING);
         Rig.sample(clock, 1, 0, 0, 0);
-        interval("of the other", clock, 0, Rig.NOTHING, Rig.NOTHING);
-        interval("of the one", clock, 1, 0, 0);
-        interval("beyond", clock, 2, Rig.NOTHING, Rig.NOTHING);
+        interval("when the other has one", clock, 0, Rig.NOTHING, Rig.NOTHING);
+        interval("of the other", clock, 1, 0, 0);
+        Rig.sample(clock, 0, 7, 7, 0);
+        interval("with one sample", clock, 0, -93, 107);
     }
 
     private static void growthIsRoundedUp() {
+        Due.by("GROWTH G(n) of n ticks is n * drift / 1000000, rounded up.");
         MajorityClock clock = new MajorityClock(1, 300, 0);
         Rig.sample(clock, 0, -2, 5, 100);
         interval("at once", clock, 0, -2, 5);
@@ -45,21 +66,55 @@ public final class IntervalsTest {
         interval("after 10000 ticks", clock, 0, -5, 8);
         clock.advance(1);
         interval("after 10001 ticks", clock, 0, -6, 9);
-        for (int i = 0; i < 500; i++) {
+        for (int i = 0; i < 400; i++) {
             clock.advance(1000000);
         }
-        interval("after very many ticks", clock, 0, -2 - 150004, 5 + 150004);
-        MajorityClock slow = new MajorityClock(1, 1, 0);
-        Rig.sample(slow, 0, 0, 0, 0);
-        slow.advance(1);
-        interval("a millionth of a tick", slow, 0, -1, 1);
-        slow.advance(999999);
-        interval("a whole tick", slow, 0, -1, 1);
-        slow.advance(1);
-        interval("a millionth above a tick", slow, 0, -2, 2);
+        interval("after very many ticks", clock, 0, -2 - 120004, 5 + 120004);
+    }
+
+    private static void growthOfTheLeastDrift() {
+        Due.by("GROWTH G(n) of n ticks is n * drift / 1000000, rounded up.");
+        MajorityClock clock = new MajorityClock(1, 1, 0);
+        Rig.sample(clock, 0, 0, 0, 0);
+        interval("at once", clock, 0, 0, 0);
+        clock.advance(1);
+        interval("a millionth of a tick", clock, 0, -1, 1);
+        clock.advance(999999);
+        interval("a whole tick", clock, 0, -1, 1);
+        clock.advance(1);
+        interval("a millionth above a tick", clock, 0, -2, 2);
+    }
+
+    private static void growthOfTheGreatestDrift() {
+        Due.by("GROWTH G(n) of n ticks is n * drift / 1000000, rounded up.");
+        MajorityClock clock = new MajorityClock(1, 1000, 0);
+        Rig.sample(clock, 0, 0, 0, 0);
+        clock.advance(999);
+        interval("after 999 ticks", clock, 0, -1, 1);
+        clock.advance(1);
+        interval("after 1000 ticks", clock, 0, -1, 1);
+        clock.advance(1);
+        interval("after 1001 ticks", clock, 0, -2, 2);
+        clock.advance(998999);
+        clock.advance(1000000);
+        clock.advance(147483);
+        interval("after 2147483 ticks", clock, 0, -2148, 2148);
+        clock.advance(518);
+        interval("after 2148001 ticks", clock, 0, -2149, 2149);
+    }
+
+    private static void noGrowthWithoutDrift() {
+        Due.by("GROWTH G(n) of n ticks is n * drift / 1000000");
+        MajorityClock clock = new MajorityClock(1, 0, 0);
+        Rig.sample(clock, 0, -2, 5, 100);
+        clock.advance(1);
+        interval("after a tick", clock, 0, -2, 5);
+        clock.advance(1000000);
+        interval("after many ticks", clock, 0, -2, 5);
     }
 
     private static void rootWidensBothEnds() {
+        Due.by("a sample gives the interval from its low end - root - g to its high end + root + g");
         MajorityClock clock = new MajorityClock(1, 1000, 0);
         Rig.sample(clock, 0, 10, 20, 100);
         clock.tell(0, 16, 0, 7);
@@ -68,21 +123,27 @@ public final class IntervalsTest {
         interval("with the root 7 and growth 2", clock, 0, 1, 29);
         clock.tell(0, 16, 0, 1000000);
         interval("with the greatest root", clock, 0, 8 - 1000000, 22 + 1000000);
+        clock.tell(0, 16, 0, 0);
+        interval("with no root", clock, 0, 8, 22);
     }
 
     private static void shortestSampleIsTaken() {
+        Due.by("The server's interval is the shortest that one of its samples gives");
         MajorityClock clock = new MajorityClock(1, 0, 0);
         clock.advance(1000);
         Rig.sample(clock, 0, 0, 10, 100);
         Rig.sample(clock, 0, 50, 59, 100);
-        interval("the latest is shorter", clock, 0, 50, 59);
-        Rig.sample(clock, 0, 100, 120, 100);
-        interval("the one before is shorter", clock, 0, 50, 59);
+        interval("the latest is shorter by one", clock, 0, 50, 59);
+        Rig.sample(clock, 0, 100, 110, 100);
+        interval("the latest is longer by one", clock, 0, 50, 59);
         clock.advance(1000000);
         interval("age alone means nothing without drift", clock, 0, 50, 59);
+        Rig.sample(clock, 0, 80, 80, 100);
+        interval("a point is shortest", clock, 0, 80, 80);
     }
 
     private static void amongEqualOnesTheLatest() {
+        Due.by("among equally short ones that of the latest sample");
         MajorityClock clock = new MajorityClock(1, 0, 0);
         clock.advance(1000);
         Rig.sample(clock, 0, 0, 10, 100);
@@ -92,9 +153,14 @@ public final class IntervalsTest {
         interval("three equal ones", clock, 0, -3, 7);
         Rig.sample(clock, 0, 0, 11, 100);
         interval("a longer one later", clock, 0, -3, 7);
+        for (int i = 1; i <= 9; i++) {
+            Rig.sample(clock, 0, 20 + i, 30 + i, 10);
+            interval("of many equal ones", clock, 0, 20 + i, 30 + i);
+        }
     }
 
     private static void growthCountsForTheShortest() {
+        Due.by("with g the growth since a sample's time");
         MajorityClock clock = new MajorityClock(1, 1000, 0);
         clock.advance(1000);
         Rig.sample(clock, 0, 0, 10, 100);
@@ -108,7 +174,8 @@ public final class IntervalsTest {
         interval("growth 3 and growth 1 still", clock, 0, 199, 215);
     }
 
-    private static void ninthSampleIsForgotten() {
+    private static void eighthSampleStaysTheNinthGoes() {
+        Due.by("the latest 8 SAMPLES (older ones are forgotten)");
         MajorityClock clock = new MajorityClock(1, 0, 0);
         clock.advance(1000);
         Rig.sample(clock, 0, 70, 70, 100);
@@ -118,14 +185,31 @@ public final class IntervalsTest {
         }
         Rig.sample(clock, 0, 8, 36, 100);
         interval("with 8 after it", clock, 0, 1, 22);
-        Rig.sample(clock, 0, 9, 38, 100);
-        interval("with 9 after it", clock, 0, 2, 24);
+        for (int i = 9; i <= 24; i++) {
+            Rig.sample(clock, 0, i, 2 * i + 20, 100);
+            interval("with " + i + " after it", clock, 0, i - 7, 2 * (i - 7) + 20);
+        }
+    }
+
+    private static void eightSamplesOfEachServer() {
+        Due.by("Each has .. the latest 8 SAMPLES");
+        MajorityClock clock = new MajorityClock(2, 0, 0);
+        clock.advance(1000);
+        Rig.sample(clock, 1, 70, 70, 100);
+        for (int i = 1; i <= 8; i++) {
+            Rig.sample(clock, 0, i, 2 * i + 20, 100);
+        }
+        interval("the other's is not forgotten", clock, 1, 70, 70);
+        interval("the oldest of eight", clock, 0, 1, 22);
     }
 
     private static void endsMayBeBelowZero() {
-        MajorityClock clock = new MajorityClock(1, 0, 0);
+        Due.by("a sample gives the interval from its low end - root - g to its high end + root + g");
+        MajorityClock clock = new MajorityClock(1, 1000, 0);
         clock.advance(1000000);
         Rig.sample(clock, 0, -1000000, -999990, 10);
         interval("long before the hardware time", clock, 0, -1000000, -999990);
+        clock.advance(1001);
+        interval("growth goes away from the middle below zero too", clock, 0, -1000002, -999988);
     }
 }

@@ -4,6 +4,7 @@ import java.util.Random;
 public final class ModelTest {
     private static final int RUNS = 1500;
     private static final int CALLS = 512;
+    private static final int MOST_CALLS_OF_A_STEP = 9;
     private static final int[] ODD_INTS = {0, 1, -1, 2, 6, 7, 16, 17, 1000000, 1000001,
         Integer.MAX_VALUE, Integer.MIN_VALUE};
     private static final long[] ODD_LONGS = {0, 1, -1, 1L << 40, (1L << 40) + 1, -(1L << 40), -(1L << 40) - 1,
@@ -41,9 +42,21 @@ public final class ModelTest {
 
     private void run(int seed) {
         int made = random.nextBoolean() ? tellAll() : 0;
-        while (made < CALLS && !Due.anyWrong()) {
+        while (made + MOST_CALLS_OF_A_STEP <= CALLS && !Due.anyWrong()) {
             made += step("run " + seed + ", call " + made + ": ");
         }
+        while (made < CALLS) {
+            made += lastLook("run " + seed + ", call " + made + ": ");
+        }
+    }
+
+    private int lastLook(String at) {
+        if (random.nextBoolean()) {
+            Due.is(at + "time()", clock.time(), model.time());
+        } else {
+            Due.is(at + "bound()", clock.bound(), model.bound());
+        }
+        return 1;
     }
 
     private int oddInt() {
@@ -88,7 +101,7 @@ public final class ModelTest {
         Due.is(at + "ask(" + s + ")", stamp, model.ask(s));
         if (s >= 0 && s < servers) {
             origins[s] = stamp;
-            asked[s] = clock.hardware();
+            asked[s] = model.hardware();
         }
         return 1;
     }
@@ -99,7 +112,7 @@ public final class ModelTest {
         long origin = known ? origins[s] : 0;
         long start = known ? asked[s] : 0;
         long received = Math.max(0, start + truth + random.nextInt(2 * spread + 1) - spread);
-        long wait = clock.hardware() - start;
+        long wait = model.hardware() - start;
         long sent = received + Math.max(0, wait - random.nextInt(spread + 2) + (random.nextInt(8) == 0 ? 1 : 0));
         switch (random.nextInt(40)) {
             case 0: origin = oddLong(); break;
