@@ -3,8 +3,10 @@ public final class IntervalsTest {
     private static final int[] NO_SERVERS = {-1, 2, 3, 6, Integer.MAX_VALUE, Integer.MIN_VALUE};
 
     public static void main(String[] args) {
-        noSuchServer();
-        noSamples();
+        lowOfNoServer();
+        highOfNoServer();
+        lowWithoutSamples();
+        highWithoutSamples();
         growthIsRoundedUp();
         growthOfTheLeastDrift();
         growthOfTheGreatestDrift();
@@ -24,31 +26,56 @@ public final class IntervalsTest {
         Due.is("high(" + s + ") " + when, clock.high(s), high);
     }
 
-    private static void noSuchServer() {
-        Due.by("NOTHING when there is no such server");
+    private static void lowOfNoServer() {
+        Due.by("The low end of the interval of server s; NOTHING when there is no such server");
         MajorityClock clock = new MajorityClock(2, 0, 0);
         Rig.samplesForAll(clock, Rig.row(0, 5), Rig.row(0, 5), 0);
         for (int s : NO_SERVERS) {
-            interval("of no server", clock, s, Rig.NOTHING, Rig.NOTHING);
+            Due.is("low(" + s + ")", clock.low(s), Rig.NOTHING);
         }
-        interval("of the first", clock, 0, 0, 0);
-        interval("of the last", clock, 1, 5, 5);
+        Due.is("low(0)", clock.low(0), 0);
+        Due.is("low(1)", clock.low(1), 5);
     }
 
-    private static void noSamples() {
-        Due.by("or it has no samples.");
+    private static void highOfNoServer() {
+        Due.by("The high end of the interval of server s; NOTHING when there is no such server");
         MajorityClock clock = new MajorityClock(2, 0, 0);
-        interval("of a new object", clock, 0, Rig.NOTHING, Rig.NOTHING);
+        Rig.samplesForAll(clock, Rig.row(0, 5), Rig.row(0, 5), 0);
+        for (int s : NO_SERVERS) {
+            Due.is("high(" + s + ")", clock.high(s), Rig.NOTHING);
+        }
+        Due.is("high(0)", clock.high(0), 0);
+        Due.is("high(1)", clock.high(1), 5);
+    }
+
+    private static void lowWithoutSamples() {
+        Due.by("NOTHING when there is no such server or it has no samples.");
+        MajorityClock clock = new MajorityClock(2, 0, 0);
+        Due.is("low(0) of a new object", clock.low(0), Rig.NOTHING);
         clock.tell(0, 1, 1, 100);
         clock.ask(0);
-        interval("when only asked", clock, 0, Rig.NOTHING, Rig.NOTHING);
+        Due.is("low(0) when only asked", clock.low(0), Rig.NOTHING);
         Rig.sealedReply(clock, 0, 0, 0, 1);
-        interval("when the reply was refused", clock, 0, Rig.NOTHING, Rig.NOTHING);
+        Due.is("low(0) when the reply was refused", clock.low(0), Rig.NOTHING);
         Rig.sample(clock, 1, 0, 0, 0);
-        interval("when the other has one", clock, 0, Rig.NOTHING, Rig.NOTHING);
-        interval("of the other", clock, 1, 0, 0);
+        Due.is("low(0) when the other has a sample", clock.low(0), Rig.NOTHING);
         Rig.sample(clock, 0, 7, 7, 0);
-        interval("with one sample", clock, 0, -93, 107);
+        Due.is("low(0) with one sample", clock.low(0), -93);
+    }
+
+    private static void highWithoutSamples() {
+        Due.by("NOTHING when there is no such server or it has no samples.");
+        MajorityClock clock = new MajorityClock(2, 0, 0);
+        Due.is("high(0) of a new object", clock.high(0), Rig.NOTHING);
+        clock.tell(0, 1, 1, 100);
+        clock.ask(0);
+        Due.is("high(0) when only asked", clock.high(0), Rig.NOTHING);
+        Rig.sealedReply(clock, 0, 0, 0, 1);
+        Due.is("high(0) when the reply was refused", clock.high(0), Rig.NOTHING);
+        Rig.sample(clock, 1, 0, 0, 0);
+        Due.is("high(0) when the other has a sample", clock.high(0), Rig.NOTHING);
+        Rig.sample(clock, 0, 7, 7, 0);
+        Due.is("high(0) with one sample", clock.high(0), 107);
     }
 
     private static void growthIsRoundedUp() {

@@ -22,8 +22,10 @@ public final class LeasesTest {
         edgesOfTheReading();
         holdsBelowTheExpiry();
         holdsByTheLatestGrant();
-        expiryAndHolderOfNoLease();
-        expiryAndHolderBeforeAGrant();
+        expiryOfNoLease();
+        expiryBeforeAGrant();
+        holderOfNoLease();
+        holderBeforeAGrant();
         Due.end();
     }
 
@@ -334,28 +336,59 @@ public final class LeasesTest {
         Due.no("holds() at the second expiry still", clock.holds(0, 1, 10200, 0));
     }
 
-    private static void expiryAndHolderOfNoLease() {
-        Due.by("NOTHING when there is no such lease / -1 when there is no such lease");
+    private static MajorityClock withAllGranted() {
         MajorityClock clock = serving(0);
         for (int i = 0; i < 4; i++) {
             clock.grant(i, 1, 10);
         }
-        for (int i : NO_LEASES) {
-            lease("that is not there", clock, i, -1, Rig.NOTHING);
-        }
-        lease("the first", clock, 0, 1, 10010);
-        lease("the last", clock, 3, 1, 10010);
+        return clock;
     }
 
-    private static void expiryAndHolderBeforeAGrant() {
-        Due.by("or it was not granted yet.");
+    private static void expiryOfNoLease() {
+        Due.by("NOTHING when there is no such lease or it was not granted yet.");
+        MajorityClock clock = withAllGranted();
+        for (int i : NO_LEASES) {
+            Due.is("expiry(" + i + ")", clock.expiry(i), Rig.NOTHING);
+        }
+        Due.is("expiry(0)", clock.expiry(0), 10010);
+        Due.is("expiry(3)", clock.expiry(3), 10010);
+    }
+
+    private static void expiryBeforeAGrant() {
+        Due.by("NOTHING when there is no such lease or it was not granted yet.");
         MajorityClock clock = serving(0);
-        noneGranted("at first", clock);
+        for (int i = 0; i < 4; i++) {
+            Due.is("expiry(" + i + ") at first", clock.expiry(i), Rig.NOTHING);
+        }
         clock.grant(1, 0, 10);
-        lease("granted", clock, 1, 0, 10010);
-        lease("the one below", clock, 0, -1, Rig.NOTHING);
-        lease("the one above", clock, 2, -1, Rig.NOTHING);
+        Due.is("expiry(1) when granted", clock.expiry(1), 10010);
+        Due.is("expiry(0) still", clock.expiry(0), Rig.NOTHING);
+        Due.is("expiry(2) still", clock.expiry(2), Rig.NOTHING);
         clock.advance(1000);
-        lease("over, but granted", clock, 1, 0, 10010);
+        Due.is("expiry(1) when over", clock.expiry(1), 10010);
+    }
+
+    private static void holderOfNoLease() {
+        Due.by("-1 when there is no such lease or it was not granted yet.");
+        MajorityClock clock = withAllGranted();
+        for (int i : NO_LEASES) {
+            Due.is("holder(" + i + ")", clock.holder(i), -1);
+        }
+        Due.is("holder(0)", clock.holder(0), 1);
+        Due.is("holder(3)", clock.holder(3), 1);
+    }
+
+    private static void holderBeforeAGrant() {
+        Due.by("-1 when there is no such lease or it was not granted yet.");
+        MajorityClock clock = serving(0);
+        for (int i = 0; i < 4; i++) {
+            Due.is("holder(" + i + ") at first", clock.holder(i), -1);
+        }
+        clock.grant(1, 0, 10);
+        Due.is("holder(1) when granted", clock.holder(1), 0);
+        Due.is("holder(0) still", clock.holder(0), -1);
+        Due.is("holder(2) still", clock.holder(2), -1);
+        clock.advance(1000);
+        Due.is("holder(1) when over", clock.holder(1), 0);
     }
 }

@@ -1,7 +1,8 @@
 /** Promises 15 and 16: time, bound. */
 public final class ServedTimeTest {
     public static void main(String[] args) {
-        nothingBeforeTheFirstUpdate();
+        timeBeforeTheFirstUpdate();
+        boundBeforeTheFirstUpdate();
         firstTargetIsTakenAtOnce();
         slewsUpByASixteenth();
         slewsDownByASixteenth();
@@ -38,23 +39,37 @@ public final class ServedTimeTest {
         return clock;
     }
 
-    private static void nothingBeforeTheFirstUpdate() {
-        Due.by("NOTHING when no update found survivors yet.");
-        MajorityClock clock = oneServer(0);
-        Rig.sample(clock, 0, 5, 5, 0);
+    private static void timeBeforeTheFirstUpdate() {
+        Due.by("The served time; NOTHING when no update found survivors yet.");
+        MajorityClock clock = Rig.withIntervals(Rig.row(0, 50), Rig.row(9, 60));
         Due.is("time() before an update", clock.time(), Rig.NOTHING);
-        Due.is("bound() before an update", clock.bound(), Rig.NOTHING);
-        clock.tell(0, 16, 1, 0);
+        Due.is("update()", clock.update(), -1);
+        Due.is("time() after an update without a majority", clock.time(), Rig.NOTHING);
+        makeUnusable(clock);
         Due.is("update()", clock.update(), 0);
         Due.is("time() after an update without usable servers", clock.time(), Rig.NOTHING);
-        Due.is("bound() after an update without usable servers", clock.bound(), Rig.NOTHING);
-        MajorityClock apart = Rig.withIntervals(Rig.row(0, 50), Rig.row(9, 60));
-        Due.is("update()", apart.update(), -1);
-        Due.is("time() after an update without a majority", apart.time(), Rig.NOTHING);
-        Due.is("bound() after an update without a majority", apart.bound(), Rig.NOTHING);
-        clock.tell(0, 1, 1, 0);
+        clock.tell(1, 1, 1, 0);
         Due.is("update()", clock.update(), 1);
-        serves("after the first that found survivors", clock, 5, 0);
+        Due.is("time() after the first that found survivors", clock.time(), 10055);
+    }
+
+    private static void boundBeforeTheFirstUpdate() {
+        Due.by("The bound; NOTHING when no update found survivors yet.");
+        MajorityClock clock = Rig.withIntervals(Rig.row(0, 50), Rig.row(9, 60));
+        Due.is("bound() before an update", clock.bound(), Rig.NOTHING);
+        Due.is("update()", clock.update(), -1);
+        Due.is("bound() after an update without a majority", clock.bound(), Rig.NOTHING);
+        makeUnusable(clock);
+        Due.is("update()", clock.update(), 0);
+        Due.is("bound() after an update without usable servers", clock.bound(), Rig.NOTHING);
+        clock.tell(1, 1, 1, 0);
+        Due.is("update()", clock.update(), 1);
+        Due.is("bound() after the first that found survivors", clock.bound(), 5);
+    }
+
+    private static void makeUnusable(MajorityClock clock) {
+        clock.tell(0, 16, 1, 0);
+        clock.tell(1, 16, 1, 0);
     }
 
     private static void firstTargetIsTakenAtOnce() {

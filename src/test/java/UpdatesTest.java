@@ -23,7 +23,9 @@ public final class UpdatesTest {
         amongEqualOnesTheHighestNumberLeaves();
         middlesAreRoundedDown();
         failedUpdateChangesNothing();
-        nothingFoundYet();
+        survivorsBeforeAnyWereFound();
+        hullBeforeAnyWereFound();
+        stratumBeforeAnyWereFound();
         stratumIsThatOfTheSurvivors();
         edgesOfTheOwnStratum();
         Due.end();
@@ -306,30 +308,56 @@ public final class UpdatesTest {
         Due.is("bound() " + when, clock.bound(), 5);
     }
 
-    private static void nothingFoundYet() {
-        Due.by("0 when there was none. / NOTHING when there was none. / 16 when there was none.");
-        MajorityClock unusable = new MajorityClock(2, 0, Rig.SELF);
-        unusable.update();
-        none("after an update without usable servers", unusable);
-        MajorityClock apart = Rig.withIntervals(Rig.row(0, 50), Rig.row(9, 60));
-        none("before an update", apart);
-        Due.is("update()", apart.update(), -1);
-        none("after an update without a majority", apart);
-        apart.tell(0, 16, 1, 0);
-        Due.is("update()", apart.update(), 1);
-        Due.is("survivors()", apart.survivors(), 2);
-        Due.is("hull(false)", apart.hull(false), 50);
-        Due.is("hull(true)", apart.hull(true), 60);
-        Due.is("stratum()", apart.stratum(), 2);
+    private static void survivorsBeforeAnyWereFound() {
+        Due.by("The sum of 1 << s over the survivors of the latest update that found some; 0 when there was none.");
+        MajorityClock clock = Rig.withIntervals(Rig.row(0, 50), Rig.row(9, 60));
+        Due.is("survivors() before an update", clock.survivors(), 0);
+        Due.is("update()", clock.update(), -1);
+        Due.is("survivors() after an update without a majority", clock.survivors(), 0);
+        makeUnusable(clock);
+        Due.is("update()", clock.update(), 0);
+        Due.is("survivors() after an update without usable servers", clock.survivors(), 0);
+        clock.tell(1, 1, 1, 0);
+        Due.is("update()", clock.update(), 1);
+        Due.is("survivors() after the first that found some", clock.survivors(), 2);
     }
 
-    private static void none(String when, MajorityClock clock) {
-        Due.is("survivors() " + when, clock.survivors(), 0);
-        Due.is("hull(false) " + when, clock.hull(false), Rig.NOTHING);
-        Due.is("hull(true) " + when, clock.hull(true), Rig.NOTHING);
-        Due.is("stratum() " + when, clock.stratum(), 16);
-        Due.is("time() " + when, clock.time(), Rig.NOTHING);
-        Due.is("bound() " + when, clock.bound(), Rig.NOTHING);
+    private static void hullBeforeAnyWereFound() {
+        Due.by("of the latest update that found survivors; NOTHING when there was none.");
+        MajorityClock clock = Rig.withIntervals(Rig.row(0, 50), Rig.row(9, 60));
+        hull("before an update", clock, Rig.NOTHING, Rig.NOTHING);
+        Due.is("update()", clock.update(), -1);
+        hull("after an update without a majority", clock, Rig.NOTHING, Rig.NOTHING);
+        makeUnusable(clock);
+        Due.is("update()", clock.update(), 0);
+        hull("after an update without usable servers", clock, Rig.NOTHING, Rig.NOTHING);
+        clock.tell(1, 1, 1, 0);
+        Due.is("update()", clock.update(), 1);
+        hull("after the first that found some", clock, 50, 60);
+    }
+
+    private static void stratumBeforeAnyWereFound() {
+        Due.by("16 when there was none.");
+        MajorityClock clock = Rig.withIntervals(Rig.row(0, 50), Rig.row(9, 60));
+        Due.is("stratum() before an update", clock.stratum(), 16);
+        Due.is("update()", clock.update(), -1);
+        Due.is("stratum() after an update without a majority", clock.stratum(), 16);
+        makeUnusable(clock);
+        Due.is("update()", clock.update(), 0);
+        Due.is("stratum() after an update without usable servers", clock.stratum(), 16);
+        clock.tell(1, 1, 1, 0);
+        Due.is("update()", clock.update(), 1);
+        Due.is("stratum() after the first that found some", clock.stratum(), 2);
+    }
+
+    private static void makeUnusable(MajorityClock clock) {
+        clock.tell(0, 16, 1, 0);
+        clock.tell(1, 16, 1, 0);
+    }
+
+    private static void hull(String when, MajorityClock clock, long lower, long upper) {
+        Due.is("hull(false) " + when, clock.hull(false), lower);
+        Due.is("hull(true) " + when, clock.hull(true), upper);
     }
 
     private static void stratumIsThatOfTheSurvivors() {
